@@ -1,5 +1,3 @@
-import java.util.Arrays;
-
 /**
  * Movements of the things of a scene: tracks of keys that set moves, turns and sizes
  * whenever the time is told, by steps, straight, or smoothly.
@@ -25,7 +23,6 @@ public final class MotionDesk {
     private static final int ONE = 65536;
 
     private final int nodeCount;
-    /** Of each node its move, turn and size, three numbers each. */
     private final int[] values;
 
     private int trackCount;
@@ -33,7 +30,7 @@ public final class MotionDesk {
     private final int[] trackWhat;
     private final int[] trackHow;
     private final int[] trackKeys;
-    /** Each track has room for MAX_KEYS keys here, so that no track ever moves another's. */
+    // Each track has room for MAX_KEYS keys of its own, so that none ever has to be moved.
     private final int[] keyTimes;
     private final int[] keyNumbers;
 
@@ -47,8 +44,9 @@ public final class MotionDesk {
         nodeCount = Math.max(1, Math.min(MAX_NODES, nodes));
         values = new int[nodeCount * WHATS * AXES];
         for (int node = 0; node < nodeCount; node++) {
-            int size = placeOf(node, SIZE);
-            Arrays.fill(values, size, size + AXES, ONE);
+            for (int i = 0; i < AXES; i++) {
+                values[placeOf(node, SIZE) + i] = ONE;
+            }
         }
         trackNode = new int[MAX_TRACKS];
         trackWhat = new int[MAX_TRACKS];
@@ -214,7 +212,6 @@ public final class MotionDesk {
         return sum;
     }
 
-    /** Sets what the track is for to what it is at the present time. */
     private void play(int track) {
         int last = track * MAX_KEYS + trackKeys[track] - 1;
         int key = keyInForce(track * MAX_KEYS, last);
@@ -225,7 +222,7 @@ public final class MotionDesk {
         }
     }
 
-    /** The last key that is not after the present time, or the first one if all are. */
+    // Before the first key that one is in force, so there is always one.
     private int keyInForce(int first, int last) {
         int key = first;
         while (key < last && keyTimes[key + 1] <= now) {
@@ -234,7 +231,7 @@ public final class MotionDesk {
         return key;
     }
 
-    /** Number i at the present time, which is at the key or behind it and before the next one. */
+    // Asked only where the time is not before the key and there is a next one, which is later.
     private int between(int how, int key, int i) {
         long a = keyNumbers[key * AXES + i];
         long change = keyNumbers[(key + 1) * AXES + i] - a;
@@ -244,13 +241,12 @@ public final class MotionDesk {
             return (int) (a + div(change * passed, whole));
         }
         if (how == SMOOTH) {
-            return (int) (a + mul(change, eased(div(passed * ONE, whole))));
+            return (int) (a + mul(change, smoothed(div(passed * ONE, whole))));
         }
         return (int) a;
     }
 
-    /** The smooth way's g for its f. */
-    private static long eased(long f) {
+    private static long smoothed(long f) {
         return mul(mul(f, f), 3 * ONE - 2 * f);
     }
 
@@ -259,7 +255,7 @@ public final class MotionDesk {
     }
 
     private static long div(long a, long b) {
-        // No track has two keys at one time; the test keeps the division safe by itself.
+        // The times of a track grow, so b is never 0; the test makes that plain here.
         return b == 0 ? 0 : Math.floorDiv(a, b);
     }
 }
