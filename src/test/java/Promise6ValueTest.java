@@ -1,18 +1,24 @@
 /** Promise 6: each number is found at its place, and 0 where there is none. */
 public final class Promise6ValueTest {
+    private static final int LEAST = Integer.MIN_VALUE;
+    private static final int GREATEST = Integer.MAX_VALUE;
     private static final Answers ANSWERS = new Answers();
 
     public static void main(String[] args) {
         everyNumberHasItsPlace();
-        elsewhereIsNought();
+        firstAndLastOfEach();
+        noSuchNode();
+        noSuchWhat();
+        noSuchNumber();
         askingChangesNothing();
         ANSWERS.end();
     }
 
     /** A desk for each what, since one desk answers for 512 calls only. */
     private static void everyNumberHasItsPlace() {
+        ANSWERS.says("Of a node what's number i, 0 .. 2");
         for (int what = 0; what < 3; what++) {
-            MotionDesk desk = new MotionDesk(48);
+            Desk desk = new Desk(48);
             for (int node = 0; node < 48; node++) {
                 desk.set(node, what, 3 * node + 1, 3 * node + 2, 3 * node + 3);
             }
@@ -20,35 +26,80 @@ public final class Promise6ValueTest {
                 int node = k / 3;
                 int rest = k % 3 == 2 ? 65536 : 0;
                 if (k % 3 == what) {
-                    ANSWERS.dueThree("set", desk, node, what, 3 * node + 1, 3 * node + 2, 3 * node + 3);
+                    ANSWERS.dueThree(desk, node, what, 3 * node + 1, 3 * node + 2, 3 * node + 3);
                 } else {
-                    ANSWERS.dueThree("not set", desk, node, k % 3, rest, rest, rest);
+                    ANSWERS.dueThree(desk, node, k % 3, rest, rest, rest);
                 }
             }
         }
     }
 
-    private static void elsewhereIsNought() {
-        MotionDesk desk = new MotionDesk(3);
-        for (int k = 0; k < 9; k++) {
-            desk.set(k / 3, k % 3, 5, 6, 7);
+    /** Nowhere 0, so that a number of a wrong place shows. */
+    private static Desk fullDesk(int nodes) {
+        Desk desk = new Desk(nodes);
+        for (int k = 0; k < 3 * nodes; k++) {
+            desk.set(k / 3, k % 3, 3 * k + 1, 3 * k + 2, 3 * k + 3);
         }
-        int[] wrong = {-1, 3, 4, 9, 48, Integer.MAX_VALUE, Integer.MIN_VALUE};
-        for (int w : wrong) {
-            for (int right = 0; right < 3; right++) {
-                ANSWERS.due("node " + w, desk.value(w, right, right), 0);
-                ANSWERS.due("what " + w, desk.value(right, w, right), 0);
-                ANSWERS.due("i " + w, desk.value(right, right, w), 0);
+        return desk;
+    }
+
+    private static void firstAndLastOfEach() {
+        ANSWERS.says("0 if there is none such");
+        int[] counts = {1, 2, 48};
+        for (int nodes : counts) {
+            Desk desk = fullDesk(nodes);
+            ANSWERS.due(desk, desk.value(0, 0, 0), 1);
+            ANSWERS.due(desk, desk.value(0, 0, 2), 3);
+            ANSWERS.due(desk, desk.value(0, 2, 2), 9);
+            ANSWERS.due(desk, desk.value(nodes - 1, 0, 0), 9 * nodes - 8);
+            ANSWERS.due(desk, desk.value(nodes - 1, 2, 2), 9 * nodes);
+            ANSWERS.due(desk, desk.value(nodes, 0, 0), 0);
+            ANSWERS.due(desk, desk.value(-1, 2, 2), 0);
+            ANSWERS.due(desk, desk.value(nodes - 1, 3, 0), 0);
+            ANSWERS.due(desk, desk.value(0, -1, 2), 0);
+            ANSWERS.due(desk, desk.value(nodes - 1, 2, 3), 0);
+            ANSWERS.due(desk, desk.value(0, 0, -1), 0);
+        }
+    }
+
+    private static void noSuchNode() {
+        ANSWERS.says("0 if there is none such");
+        int[] wrong = {-1, -2, LEAST + 1, LEAST, 3, 4, 48, 49, 477218588, 477218589, GREATEST - 1, GREATEST};
+        Desk desk = fullDesk(3);
+        for (int node : wrong) {
+            for (int k = 0; k < 9; k++) {
+                ANSWERS.due(desk, desk.value(node, k / 3, k % 3), 0);
+            }
+        }
+    }
+
+    private static void noSuchWhat() {
+        ANSWERS.says("0 if there is none such");
+        int[] wrong = {-1, -2, LEAST + 1, LEAST, 3, 4, 1431655765, GREATEST - 1, GREATEST};
+        Desk desk = fullDesk(3);
+        for (int what : wrong) {
+            for (int k = 0; k < 9; k++) {
+                ANSWERS.due(desk, desk.value(k / 3, what, k % 3), 0);
+            }
+        }
+    }
+
+    private static void noSuchNumber() {
+        ANSWERS.says("0 if there is none such");
+        int[] wrong = {-1, -2, LEAST + 1, LEAST, 3, 4, GREATEST - 1, GREATEST};
+        Desk desk = fullDesk(3);
+        for (int i : wrong) {
+            for (int k = 0; k < 9; k++) {
+                ANSWERS.due(desk, desk.value(k / 3, k % 3, i), 0);
             }
         }
     }
 
     private static void askingChangesNothing() {
-        MotionDesk desk = new MotionDesk(1);
-        desk.key(0, 1, 2, 3);
-        ANSWERS.dueThree("first", desk, 0, 2, 65536, 65536, 65536);
-        ANSWERS.dueThree("again", desk, 0, 2, 65536, 65536, 65536);
-        ANSWERS.due("count(4)", desk.count(4), 1);
-        ANSWERS.due("count(3)", desk.count(3), 0);
+        ANSWERS.says("Nothing is promised beyond the answers and state changes described above");
+        Scene.WITH_TEXT.isKeptBy(ANSWERS, desk -> desk.value(1, 1, 1), 52);
+        Scene.WITH_TEXT.isKeptBy(ANSWERS, desk -> desk.value(3, 0, 0), 0);
+        Scene.WITH_TEXT.isKeptBy(ANSWERS, desk -> desk.value(0, 3, 0), 0);
+        Scene.WITH_TEXT.isKeptBy(ANSWERS, desk -> desk.value(0, 0, 3), 0);
     }
 }
