@@ -8,6 +8,15 @@ final class Answers {
     private String words = "";
     private final Set<String> broken = new TreeSet<>();
 
+    /** No call may throw, so a throw breaks the sentence that is being asked for, and is told with it. */
+    Answers() {
+        Thread.setDefaultUncaughtExceptionHandler((thread, thrown) -> {
+            thrown.printStackTrace(System.out);
+            tell("a call threw " + thrown);
+            end();
+        });
+    }
+
     /** What is due from here on is due because the document says these words. */
     void says(String wordsOfTheDocument) {
         words = wordsOfTheDocument;

@@ -9,28 +9,30 @@ import java.util.function.ToLongFunction;
  *
  * @param trackTimes times that tell the tracks' keys
  * @param textTimes times that tell the text's keys, once they are a track
+ * @param keys how many keys the text has
+ * @param lastTime the time of the last of them, or -1
  */
-record Scene(Supplier<Desk> make, int[] trackTimes, int[] textTimes) {
+record Scene(Supplier<Desk> make, int[] trackTimes, int[] textTimes, int keys, int lastTime) {
 
     /** Three tracks, one of each how, set over by hand at time 12, and two keys in the text. */
     static final Scene WITH_TEXT = new Scene(Scene::deskWithText,
-            new int[] {0, 4, 5, 8, 12, 15, 16, 24, 25}, new int[] {9, 10, 11, 29, 30, 31, 32});
+            new int[] {0, 4, 5, 8, 12, 15, 16, 24, 25}, new int[] {9, 10, 11, 29, 30, 31, 32}, 2, 30);
 
     /** The same, but for the text, which has no keys. */
     static final Scene WITHOUT_TEXT = new Scene(Scene::deskWithoutText,
-            WITH_TEXT.trackTimes, WITH_TEXT.textTimes);
+            WITH_TEXT.trackTimes, WITH_TEXT.textTimes, 0, -1);
 
     /** 32 keys in the text, at 1 to 32. */
     static final Scene WITH_FULL_TEXT = new Scene(Scene::deskWithFullText,
-            new int[] {0}, upTo(35));
+            new int[] {0}, upTo(35), 32, 32);
 
     /** 32 tracks, each for a place of its own, and one key in the text. */
     static final Scene WITH_ALL_TRACKS = new Scene(Scene::deskWithAllTracks,
-            new int[] {3}, WITH_TEXT.textTimes);
+            new int[] {3}, WITH_TEXT.textTimes, 1, 10);
 
     /** The same, but for the text, which has no keys. */
     static final Scene WITH_ALL_TRACKS_BUT_NO_TEXT = new Scene(Scene::deskWithThirtyTwoTracks,
-            new int[] {3}, WITH_TEXT.textTimes);
+            new int[] {3}, WITH_TEXT.textTimes, 0, -1);
 
     /** The call answers what is due, and behind it all is as it was. */
     void isKeptBy(Answers answers, ToLongFunction<Desk> call, long due) {
@@ -44,6 +46,27 @@ record Scene(Supplier<Desk> make, int[] trackTimes, int[] textTimes) {
         String name = desk.lastCall();
         answers.due(name, got, due);
         answers.dueSame(name, allOf(desk), other.allOf(other.make.get()));
+        nextKeyComes(other, answers, call);
+        anotherKeyDoesNotCome(other, answers, call);
+    }
+
+    /** Asked of a new desk, since a key that comes changes what the rest would tell. */
+    private void nextKeyComes(Scene other, Answers answers, ToLongFunction<Desk> call) {
+        Desk desk = make.get();
+        call.applyAsLong(desk);
+        String behind = "behind " + desk.lastCall() + ": ";
+        int due = other.keys == 32 ? MotionDesk.NONE : other.keys + 1;
+        long got = desk.key(other.lastTime + 1, 1, 1, 1);
+        answers.due(behind + desk.lastCall(), got, due);
+    }
+
+    /** Asked of a new desk, since a refused key might hide what another refused call has done. */
+    private void anotherKeyDoesNotCome(Scene other, Answers answers, ToLongFunction<Desk> call) {
+        Desk desk = make.get();
+        call.applyAsLong(desk);
+        String behind = "behind " + desk.lastCall() + ": ";
+        long got = desk.key(other.lastTime, 1, 1, 1);
+        answers.due(behind + desk.lastCall(), got, MotionDesk.NONE);
     }
 
     /** The desk is of no use behind this: its tracks are cleared and its text is spent. */
@@ -83,12 +106,7 @@ record Scene(Supplier<Desk> make, int[] trackTimes, int[] textTimes) {
         }
     }
 
-    /** The time of the text's last key is told by which keys can still come: here it is 10 or 30, or there are 32. */
     private void text(Desk desk, List<String> all) {
-        add(desk, desk.key(10, -1, -2, -3), all);
-        add(desk, desk.key(11, -4, -5, -6), all);
-        add(desk, desk.key(30, -7, -8, -9), all);
-        add(desk, desk.key(31, -10, -11, -12), all);
         add(desk, desk.track(0, 0, 0), all);
         for (int t : textTimes) {
             desk.time(t);

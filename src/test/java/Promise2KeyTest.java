@@ -131,6 +131,13 @@ public final class Promise2KeyTest {
         ANSWERS.due(desk, desk.key(33, 1, 1, 1), NONE);
         ANSWERS.due(desk, desk.key(1000000, 1, 1, 1), NONE);
         ANSWERS.due(desk, desk.count(4), 32);
+        desk.track(0, 0, 0);
+        for (int k = 1; k <= 32; k++) {
+            desk.time(k);
+            ANSWERS.dueThree(desk, 0, 0, k, -k, 2 * k);
+        }
+        desk.time(1000000);
+        ANSWERS.dueThree(desk, 0, 0, 32, -32, 64);
         // The scene's keys are at 1 to 32.
         int[] times = {33, 1000000};
         for (int time : times) {
@@ -146,7 +153,7 @@ public final class Promise2KeyTest {
                 ANSWERS.due(desk, desk.key(k, text, k, k), k);
             }
             ANSWERS.due(desk, desk.key(33, 1, 1, 1), NONE);
-            // The last text is given up by a refused track, and a new one begins just the same.
+            // The second text is given up by a refused track, and a new one begins just the same.
             ANSWERS.due(desk, desk.track(0, 0, text == 1 ? 3 : 0), text == 1 ? NONE : text / 2);
         }
         ANSWERS.due(desk, desk.count(2), 64);

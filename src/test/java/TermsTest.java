@@ -44,6 +44,8 @@ public final class TermsTest {
     }
 
     private static void at(Desk desk, int what, int t, int x, int y, int z) {
+        // Otherwise a track that sets nothing at this time would leave what it set before, which may be the same.
+        desk.set(1, what, 777777, 777778, 777779);
         ANSWERS.due(desk, desk.time(t), true);
         ANSWERS.dueThree(desk, 1, what, x, y, z);
     }
