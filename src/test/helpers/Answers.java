@@ -32,6 +32,12 @@ final class Answers {
         due(call, got ? 1 : 0, want ? 1 : 0);
     }
 
+    void due(String call, String got, String want) {
+        if (!got.equals(want)) {
+            tell(call + " answered " + got + ", due is " + want);
+        }
+    }
+
     /** For the answer of the call that the desk has just had. */
     void due(Desk desk, long got, long want) {
         due(desk.lastCall(), got, want);
@@ -74,7 +80,9 @@ final class Answers {
 
     private void tell(String line) {
         wrong++;
-        broken.add(words);
+        if (!words.isEmpty()) {
+            broken.add(words);
+        }
         System.out.println(line);
     }
 }

@@ -10,20 +10,40 @@ public final class FaceTest {
     private static final Answers ANSWERS = new Answers();
 
     public static void main(String[] args) {
+        theClass();
+        theMethods();
+        theConstant();
+        theConstructor();
+        ANSWERS.end();
+    }
+
+    private static void theClass() {
+        ANSWERS.says("public final class MotionDesk");
         ANSWERS.due("the class is public and final", MotionDesk.class.getModifiers(),
                 Modifier.PUBLIC | Modifier.FINAL);
-        ANSWERS.due("NONE", MotionDesk.NONE, -1);
-        same("methods", methods(), "about(int, int) int", "clear() void", "count(int) int",
-                "key(int, int, int, int) int", "set(int, int, int, int, int) boolean",
-                "time(int) boolean", "track(int, int, int) int", "value(int, int, int) int");
+    }
+
+    private static void theMethods() {
+        ANSWERS.says("NUMBERS are ints");
+        same("methods", methods(), "public int about(int, int)", "public void clear()", "public int count(int)",
+                "public int key(int, int, int, int)", "public boolean set(int, int, int, int, int)",
+                "public boolean time(int)", "public int track(int, int, int)", "public int value(int, int, int)");
+    }
+
+    private static void theConstant() {
+        ANSWERS.says("public static final int NONE = -1;");
         same("fields", fields(), "public static final int NONE");
+        ANSWERS.due("NONE", MotionDesk.NONE, -1);
+    }
+
+    private static void theConstructor() {
+        ANSWERS.says("public MotionDesk(int nodes);");
         same("constructors", constructors(), "public MotionDesk(int)");
-        ANSWERS.end();
     }
 
     private static void same(String what, TreeSet<String> got, String... want) {
         TreeSet<String> due = new TreeSet<>(Arrays.asList(want));
-        ANSWERS.due(what + " are " + got + ", due are " + due, got.equals(due), true);
+        ANSWERS.due(what + " asked for", got.toString(), due.toString());
     }
 
     private static TreeSet<String> methods() {
@@ -31,7 +51,8 @@ public final class FaceTest {
         for (Method m : MotionDesk.class.getDeclaredMethods()) {
             if (!Modifier.isPrivate(m.getModifiers())) {
                 String types = Arrays.toString(m.getParameterTypes());
-                seen.add(m.getName() + "(" + types.substring(1, types.length() - 1) + ") " + m.getReturnType());
+                seen.add(Modifier.toString(m.getModifiers()) + " " + m.getReturnType() + " " + m.getName()
+                        + "(" + types.substring(1, types.length() - 1) + ")");
             }
         }
         return seen;

@@ -43,7 +43,7 @@ public final class Promise2KeyTest {
     }
 
     private static void timesOutside() {
-        ANSWERS.says("if the time is not 0 .. 1000000");
+        ANSWERS.says("NONE, and it does not come, if the time is not 0 .. 1000000");
         int[] wrong = {-1, -2, LEAST + 1, LEAST, 1000001, 1000002, GREATEST - 1, GREATEST};
         for (int time : wrong) {
             Scene.WITHOUT_TEXT.isKeptBy(ANSWERS, desk -> desk.key(time, 1, 1, 1), NONE);

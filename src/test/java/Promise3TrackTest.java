@@ -7,6 +7,7 @@ public final class Promise3TrackTest {
 
     public static void main(String[] args) {
         itsNumber();
+        aRefusedOneTakesNoNumber();
         fewestAndMostKeys();
         theTextHasNoneBehindATrack();
         theTextHasNoneBehindARefusal();
@@ -25,18 +26,24 @@ public final class Promise3TrackTest {
     }
 
     private static void itsNumber() {
-        ANSWERS.says("they have numbers from 0 on");
+        ANSWERS.says("The text's keys (it has none then, whatever comes of it) are a track: its number");
         Desk desk = new Desk(2);
         for (int k = 0; k < 9; k++) {
             desk.key(k, k, k, k);
             ANSWERS.due(desk, desk.track(k % 2, k / 3, k % 3), k);
             ANSWERS.due(desk, desk.count(1), k + 1);
         }
-        // A refused one takes no number.
-        desk.key(0, 1, 1, 1);
-        ANSWERS.due(desk, desk.track(0, 0, 3), NONE);
-        desk.key(0, 1, 1, 1);
-        ANSWERS.due(desk, desk.track(0, 0, 2), 9);
+    }
+
+    private static void aRefusedOneTakesNoNumber() {
+        ANSWERS.says("they have numbers from 0 on");
+        Desk desk = new Desk(2);
+        for (int k = 0; k < 5; k++) {
+            desk.key(0, 1, 1, 1);
+            ANSWERS.due(desk, desk.track(0, 0, 3), NONE);
+            desk.key(0, 1, 1, 1);
+            ANSWERS.due(desk, desk.track(0, 0, 2), k);
+        }
     }
 
     private static void fewestAndMostKeys() {

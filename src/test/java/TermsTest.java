@@ -1,11 +1,18 @@
-/** "Terms": what a track sets at which time, to the last unit. */
+/** "Terms": what a node and a track can have, and what a track sets at which time, to the last unit. */
 public final class TermsTest {
+    private static final int NONE = MotionDesk.NONE;
     private static final int STEPS = 0;
     private static final int STRAIGHT = 1;
     private static final int SMOOTH = 2;
     private static final Answers ANSWERS = new Answers();
 
     public static void main(String[] args) {
+        whatANodeCanHave();
+        whatATrackCanBeFor();
+        eachHowIsItsOwn();
+        timesOfATrack();
+        numbersOfATrack();
+        nothingThere();
         beforeItsFirstKey();
         aFirstKeyAtTheVeryEnds();
         atItsLastKeyOrBehind();
@@ -48,6 +55,102 @@ public final class TermsTest {
         desk.set(1, what, 777777, 777778, 777779);
         ANSWERS.due(desk, desk.time(t), true);
         ANSWERS.dueThree(desk, 1, what, x, y, z);
+    }
+
+    /** Of a MOVE, a TURN and a SIZE. */
+    private static final int[] REACH = {4194304, 1048576, 1048576};
+
+    private static void whatANodeCanHave() {
+        ANSWERS.says("A NODE has a MOVE (what 0; 3 numbers -4194304 .. 4194304), a TURN (1; -1048576 .. 1048576)"
+                + " and a SIZE (2; -1048576 .. 1048576)");
+        for (int what = 0; what < 3; what++) {
+            int most = REACH[what];
+            Desk desk = new Desk(2);
+            ANSWERS.due(desk, desk.set(1, what, most, -most, most - 1), true);
+            ANSWERS.dueThree(desk, 1, what, most, -most, most - 1);
+            ANSWERS.due(desk, desk.set(1, what, most + 1, 0, 0), false);
+            ANSWERS.due(desk, desk.set(1, what, 0, -most - 1, 0), false);
+            ANSWERS.due(desk, desk.set(1, what, 0, 0, most + 1), false);
+            ANSWERS.dueThree(desk, 1, what, most, -most, most - 1);
+            // Three whats and three numbers each, and no more.
+            ANSWERS.due(desk, desk.value(1, what, 3), 0);
+            ANSWERS.due(desk, desk.set(1, what + 3, 1, 1, 1), false);
+        }
+    }
+
+    private static void whatATrackCanBeFor() {
+        ANSWERS.says("A TRACK has a node, WHAT 0, 1 or 2, HOW 0 (by steps), 1 (straight), 2 (smooth)");
+        for (int k = 0; k < 27; k++) {
+            Desk desk = new Desk(3);
+            desk.key(7, 1, 2, 3);
+            ANSWERS.due(desk, desk.track(k / 9, k / 3 % 3, k % 3), 0);
+            ANSWERS.due(desk, desk.about(0, 0), k / 9);
+            ANSWERS.due(desk, desk.about(0, 1), k / 3 % 3);
+            ANSWERS.due(desk, desk.about(0, 2), k % 3);
+            desk.time(7);
+            for (int place = 0; place < 9; place++) {
+                int rest = place % 3 == 2 ? 65536 : 0;
+                boolean isSet = place == k / 3;
+                ANSWERS.dueThree(desk, place / 3, place % 3, isSet ? 1 : rest, isSet ? 2 : rest, isSet ? 3 : rest);
+            }
+        }
+    }
+
+    private static void eachHowIsItsOwn() {
+        ANSWERS.says("HOW 0 (by steps), 1 (straight), 2 (smooth)");
+        // A quarter of the way: none of it, a quarter, and 10240 of 65536.
+        int[] want = {0, 16384, 10240};
+        for (int how = 0; how < 3; how++) {
+            Desk desk = deskWithTrack(0, how, key(0, 0, 0, 0), key(4, 65536, 65536, 65536));
+            at(desk, 0, 1, want[how], want[how], want[how]);
+        }
+    }
+
+    private static void timesOfATrack() {
+        ANSWERS.says("TIMES 0 .. 1000000 that grow");
+        Desk desk = new Desk(2);
+        ANSWERS.due(desk, desk.key(-1, 9, 9, 9), NONE);
+        ANSWERS.due(desk, desk.key(0, 1, 1, 1), 1);
+        ANSWERS.due(desk, desk.key(0, 9, 9, 9), NONE);
+        ANSWERS.due(desk, desk.key(500, 2, 2, 2), 2);
+        ANSWERS.due(desk, desk.key(499, 9, 9, 9), NONE);
+        ANSWERS.due(desk, desk.key(1000001, 9, 9, 9), NONE);
+        ANSWERS.due(desk, desk.key(1000000, 3, 3, 3), 3);
+        ANSWERS.due(desk, desk.track(1, 0, STEPS), 0);
+        ANSWERS.due(desk, desk.about(0, 3), 3);
+        at(desk, 0, 0, 1, 1, 1);
+        at(desk, 0, 499, 1, 1, 1);
+        at(desk, 0, 500, 2, 2, 2);
+        at(desk, 0, 999999, 2, 2, 2);
+        at(desk, 0, 1000000, 3, 3, 3);
+    }
+
+    private static void numbersOfATrack() {
+        ANSWERS.says("and 3 numbers each, which the node can have there");
+        for (int what = 0; what < 3; what++) {
+            int most = REACH[what];
+            for (int how = 0; how < 3; how++) {
+                Desk desk = deskWithTrack(what, how, key(0, -most, most, 1), key(2, most, -most, 3));
+                ANSWERS.due("behind it: count(1)", desk.count(1), 1);
+                at(desk, what, 0, -most, most, 1);
+                at(desk, what, 2, most, -most, 3);
+            }
+            Desk above = deskWithTrack(what, STEPS, key(0, 0, 0, 0), key(2, 0, 0, most + 1));
+            // Of a move such a key does not come at all, and the one before it is a track alone.
+            ANSWERS.due(above, above.count(2), what == 0 ? 1 : 0);
+            Desk below = deskWithTrack(what, STEPS, key(0, -most - 1, 0, 0));
+            ANSWERS.due(below, below.count(2), 0);
+        }
+    }
+
+    private static void nothingThere() {
+        ANSWERS.says("The constants: `NONE = -1`: Nothing there");
+        Desk desk = new Desk(1);
+        ANSWERS.due("NONE", NONE, -1);
+        ANSWERS.due(desk, desk.key(-1, 0, 0, 0), -1);
+        ANSWERS.due(desk, desk.track(0, 0, 0), -1);
+        ANSWERS.due(desk, desk.count(5), -1);
+        ANSWERS.due(desk, desk.about(0, 0), -1);
     }
 
     private static void beforeItsFirstKey() {
@@ -148,7 +251,7 @@ public final class TermsTest {
     }
 
     private static void fromOneKeyToTheNext() {
-        ANSWERS.says("with keys at s and e (s <= t < e)");
+        ANSWERS.says("else, with keys at s and e (s <= t < e) and numbers a and b");
         for (int k = 0; k < 9; k++) {
             int what = k / 3;
             Desk desk = deskWithThreeKeys(what, k % 3);
